@@ -4,6 +4,8 @@ final class Checks {
     static final String THROWS_NO_SUCH = "throws.NoSuchElementException";
 
     private final String title;
+    private String words = "";
+    private int sentences;
     private int done;
     private int wrong;
 
@@ -11,20 +13,26 @@ final class Checks {
         this.title = title;
     }
 
+    /** The document's words that the answers from here on are held against. */
+    void sentence(String quoted) {
+        words = " \"" + quoted + "\"";
+        sentences++;
+    }
+
     void due(String what, int got, int want) {
-        done++;
-        if (got != want) {
-            wrong++;
-            System.out.println(title + ": " + what + " answered " + got + ", due is " + want);
-        }
+        due(what, Integer.toString(got), Integer.toString(want));
     }
 
     void due(String what, String got, String want) {
         done++;
         if (!got.equals(want)) {
             wrong++;
-            System.out.println(title + ": " + what + " answered " + got + ", due is " + want);
+            System.out.println(title + words + ": " + shortened(what) + " answered " + got + ", due is " + want);
         }
+    }
+
+    private static String shortened(String text) {
+        return text.length() <= 300 ? text : text.substring(0, 140) + " .. " + text.substring(text.length() - 140);
     }
 
     /** Feeds the text, with blanks behind it up to a whole feed. */
@@ -123,7 +131,8 @@ final class Checks {
     }
 
     void end() {
-        System.out.println(title + ": " + (done - wrong) + " of " + done + " answers as due");
+        String quoted = sentences == 0 ? "" : ", by " + sentences + " sentences";
+        System.out.println(title + ": " + (done - wrong) + " of " + done + " answers as due" + quoted);
         if (wrong != 0) {
             System.exit(1);
         }
