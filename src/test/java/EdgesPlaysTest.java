@@ -19,6 +19,7 @@ public final class EdgesPlaysTest {
         tries(checks);
         always(checks);
         fuel(checks);
+        behindEnds(checks);
         deep(checks);
         fullOfThings(checks);
         fullOfItems(checks);
@@ -41,7 +42,8 @@ public final class EdgesPlaysTest {
 
     private static void numbers(Checks checks) {
         checks.sentence("INTS have 32 bits and wrap;");
-        says(checks, LEAST + ";" + LEAST + " - 1;-" + LEAST + ";" + LEAST + " * -1;0 - " + LEAST, Integer.MIN_VALUE + " " + Integer.MAX_VALUE
+        says(checks, LEAST + ";" + LEAST + " - 1;-" + LEAST + ";" + LEAST + " * -1;0 - " + LEAST, Integer.MIN_VALUE + " "
+            + "" + Integer.MAX_VALUE
             + " " + Integer.MIN_VALUE + " " + Integer.MIN_VALUE + " " + Integer.MIN_VALUE);
         says(checks, LEAST + " - 1 + 1;65536 * 65536;65536 * 32768;46341 * 46341", Integer.MIN_VALUE + " 0 " + Integer.MIN_VALUE + " "
             + 46341 * 46341);
@@ -53,7 +55,8 @@ public final class EdgesPlaysTest {
         checks.sentence("/ and % cut towards 0.");
         says(checks, "7 / 2;-7 / 2;7 / -2;-7 / -2;1 / 2;-1 / 2", "3 -3 -3 3 0 0");
         says(checks, "7 % 2;-7 % 2;7 % -2;-7 % -2;1 % 2;-1 % 2", "1 -1 1 -1 1 -1");
-        says(checks, LEAST + " / -1;" + LEAST + " % -1;" + LEAST + " / 1;0 / 5;0 % -5", Integer.MIN_VALUE + " 0 " + Integer.MIN_VALUE + " 0 0");
+        says(checks, LEAST + " / -1;" + LEAST + " % -1;" + LEAST + " / 1;0 / 5;0 % -5", Integer.MIN_VALUE + " 0 "
+            + "" + Integer.MIN_VALUE + " 0 0");
 
         checks.sentence("! gives 1 of 0, else 0; comparing gives 1 or 0;");
         says(checks, "!0;!1;!-1;!2;!!2;!" + LEAST, "1 0 0 0 1 0");
@@ -63,7 +66,8 @@ public final class EdgesPlaysTest {
         says(checks, LEAST + " < " + LEAST + " - 1;-1 < 0;-1 > 0", "1 1 0");
 
         checks.sentence("== of things: whether it is the same one.");
-        checks.plays(in("p = new puppet; s = new singer; r = new row[0]; c = new cue(0); say p == p; say p == new puppet; say p != p.master; "
+        checks.plays(in("p = new puppet; s = new singer; r = new row[0]; c = new cue(0); say p == p; say p == new puppet; say p != "
+            + "p.master; "
             + "say p.master == nobody; say r == new row[0]; say r == r; say c == new cue(0); say c != c; say nobody == nobody; x = s; "
             + "say x == s; p = s; say p == s; say p == x as singer;"), 0, 0, "1 0 1 1 0 1 0 0 1 1 1 1");
     }
@@ -89,13 +93,26 @@ public final class EdgesPlaysTest {
         checks.plays(in("p = new puppet; q(1).master.age = t(2);") + more, 1, 2, "1 2");
         checks.plays(in("p = new puppet; p.age = lose(4); say p == nobody;") + more, 0, 0, "4 1");
         checks.plays(in("r = new row[1]; r[0] = new walker; n = 0; r[n].age = lose(4); say r == nobody;") + more, 0, 0, "4 1");
-        checks.plays(in("n = 1; r = new row[2]; r[n] = put(); say r[1] == nobody; say n;") + " scene put(): puppet { n = 0; give new singer; }",
+        checks.plays(in("n = 1; r = new row[2]; r[n] = put(); say r[1] == nobody; say n;") + " scene put(): puppet { n = 0; give new "
+            + "singer; }",
             0, 0, "0 0");
         checks.plays(in("n = 5; n = n + put(); say n;") + " scene put(): int { n = 7; give 1; }", 0, 0, "6");
         checks.sentence("All else is worked from the left, each part wholly:");
         checks.plays(in("n = t(1) * t(2) + t(3) * (t(4) - t(5)); say n;") + more, 0, 0, "1 2 3 4 5 -1");
         checks.plays(in("say q(1).shine(t(2) / 0);") + more, 1, 11, "1 2");
         checks.plays(in("say o(1)[1 / t(0)] == q(3);") + more, 1, 11, "1 0");
+        checks.plays(in("say 5 - (1 & 1); say 5 - (0 | 1); say 5 - (0 & 1); say 5 - (1 | 0);"), 0, 0, "4 4 5 4");
+        checks.plays(in("p = new singer; p.age = 3; p.row = new row[1]; p.row[0] = p; say 9 - (p as singer).pitch; say 9 - (p.first() is "
+            + "singer); "
+            + "say 9 - p.add(1, 2) * 2; say 9 - #p.row; say 9 - new cue(2).number; say 9 - p.row[0].age;")
+            + " act puppet add(i: int, j: int): int { give i + j + me.age; }", 0, 0, "9 8 -3 8 7 6");
+        // What a call, an UPSET or a CUE leaves behind must not add up.
+        checks.plays(in("while (n < 150) { n = n + 1; f(1); } say 9 - f(4);") + " scene f(i: int): int { give i; }", 0, 0, "5");
+        checks.plays(in("while (n < 150) { n = n + 1; (new puppet).q(); } say 9 - n;") + " act puppet q() {}", 0, 0, "-141");
+        checks.plays(in("while (n < 150) { n = n + 1; try { n = 1 + (2 + (3 + 4 / 0)); } lack (11) {} } say 9 - (8 - (7 - "
+            + "n));"), 0, 0, "-142");
+        checks.plays(in("while (n < 150) { n = n + 1; try { n = 1 + (2 + f(3, f(4, 5))); } cue (d) {} } say 9 - (8 - (7 - n));")
+            + " scene f(i: int, j: int): int { throw new cue(1); }", 0, 0, "-142");
         checks.plays(in("f(t(1), q(2), o(3), t(4), t(5));") + more + " scene f(i: int, j: puppet, k: row, h: int, e: int) { say e - h; }",
             0, 0, "1 2 3 4 5 1");
     }
@@ -116,7 +133,8 @@ public final class EdgesPlaysTest {
 
     private static void stages(Checks checks) {
         checks.sentence("STAGES are 0, nobody when the book is taken; they stay from play to play.");
-        String text = "stage n: int; stage p: puppet; scene main() { n = n + 1; if (p == nobody) { p = new puppet; } p.age = p.age + 2; say p.age; "
+        String text = "stage n: int; stage p: puppet; scene main() { n = n + 1; if (p == nobody) { p = new puppet; } p.age = p.age + 2; "
+            + "say p.age; "
             + "if (n == 3) { say 1 / 0; } }";
         PromptBook book = checks.sound(text);
         for (int i = 1; i <= 4; i++) {
@@ -134,14 +152,16 @@ public final class EdgesPlaysTest {
         checks.plays(in("say f(); say g() == nobody; say h(); i(); say 6;") + " scene f(): int {} scene g(): cue {} "
             + "scene h(): int { while (1) { if (1) { give 4; say 1; } } say 2; } scene i() { say 5; give; say 3; }", 0, 0, "0 1 4 5 6");
         checks.plays(in("give; say 1;"), 0, 0, "");
-        checks.plays("act prop f(): int { if (me.weight) { give 7; } } scene main() { var v: prop = new prop; say v.f(); v.weight = 1; say v.f(); "
+        checks.plays("act prop f(): int { if (me.weight) { give 7; } } scene main() { var v: prop = new prop; say v.f(); v.weight = 1; "
+            + "say v.f(); "
             + "v.weight = 0; say v.f(); }", 0, 0, "0 7 0");
     }
 
     private static void ownActs(Checks checks) {
         checks.sentence("Of a call of an ACT: that of the thing's own KIND, if there is one, else that of puppet; me is the thing.");
         checks.plays("stage p: puppet; act puppet q(): int { give 1 + me.age; } act singer q(): int { give 2 + me.age; } "
-            + "act puppet both(): int { give me.q(); } scene main() { p = new puppet; say p.q(); say p.both(); p = new singer; p.age = 10; say p.q(); say p.both(); "
+            + "act puppet both(): int { give me.q(); } scene main() { p = new puppet; say p.q(); say p.both(); p = new singer; p.age = "
+            + "10; say p.q(); say p.both(); "
             + "p = new walker; p.age = 20; say p.q(); say p.both(); }", 0, 0, "1 1 12 12 21 21");
     }
 
@@ -160,8 +180,9 @@ public final class EdgesPlaysTest {
             upset(checks, 2, field + " = nobody;");
         }
         checks.sentence("3 CALL: a call, by a KIND's type, of nobody. 4 ROLE: by a ROLE's type, of nobody.");
-        for (String call : "a.^heft(1) a.^to(p) a.^go(1) l.^far() l.^glow(1) p.^lift() p.^ask() p.^shine(1) p.^many() p.^first() p.^shout() "
-            .concat("s.^line(1) s.^glow(1) w.^line(1) w.^go(1)").split(" ")) {
+        String calls = "a.^heft(1) a.^to(p) a.^go(1) l.^far() l.^glow(1) p.^lift() p.^ask() p.^shine(1) p.^many() p.^first() p.^shout() "
+            + "s.^line(1) s.^glow(1) w.^line(1) w.^go(1)";
+        for (String call : calls.split(" ")) {
             upset(checks, 3, call + ";");
         }
         checks.upsets(in("p.^q();") + " act puppet q() {}", 1, 3);
@@ -184,7 +205,8 @@ public final class EdgesPlaysTest {
         upset(checks, 9, "r = new row[0]; p = r^[0];");
         upset(checks, 9, "r = new row[0]; r^[0] = p;");
         checks.plays(in("r = new row[2]; r[0] = new singer; r[1] = r[0]; say r[1] is singer; say r[0] is singer;"), 0, 0, "1 1");
-        checks.sentence("10 KIND: as of a thing that is none of these. 11 ZERO: / or % by 0. 12 SIZE: new row of less than 0 or more than 1,000.");
+        checks.sentence("10 KIND: as of a thing that is none of these. 11 ZERO: / or % by 0. 12 SIZE: new row of less than 0 or more "
+            + "than 1,000.");
         upset(checks, 10, "p = new puppet; s = p ^as singer;");
         upset(checks, 10, "m = new prop; w = m ^as walker;");
         upset(checks, 10, "g = new lamp; x = g ^as speaker;");
@@ -199,7 +221,8 @@ public final class EdgesPlaysTest {
     }
 
     private static void upsetsInCalls(Checks checks) {
-        checks.sentence("(heft: 1; to: 2; far: 1; lift: 1; ask: 3, or what lift is; shine: 4; many: 6; first: 7, 9; shout: 5), what came ahead stays.");
+        checks.sentence("(heft: 1; to: 2; far: 1; lift: 1; ask: 3, or what lift is; shine: 4; many: 6; first: 7, 9; shout: 5), what came "
+            + "ahead stays.");
         String made = "a = new prop; l = new lamp; p = new puppet; s = new singer; w = new walker; ";
         upset(checks, 1, made + "a.weight = 5; say a.^heft(0);");
         upset(checks, 2, made + "say a.^to(nobody);");
@@ -217,9 +240,12 @@ public final class EdgesPlaysTest {
         upset(checks, 7, made + "p = p.^first();");
         upset(checks, 9, made + "p.row = new row[0]; p = p.^first();");
         upset(checks, 5, made + "p.^shout();");
-        checks.plays(in(made + "a.owner = p; p.held = a; try { say a.to(nobody); } lack (2) { say a.owner == p; say p.held == a; }"), 0, 0, "1 1");
-        checks.plays(in(made + "p.row = new row[1]; say p.many(); say p.first() == nobody; p.row = new row[0]; say p.many();"), 0, 0, "1 1 0");
-        checks.plays(in(made + "p.lamp = l; say p.shine(-3); say l.light; s.lamp = l; s.pitch = 10; say s.glow(1); say l.light;"), 0, 0, "-3 -3 8 -2");
+        checks.plays(in(made + "a.owner = p; p.held = a; try { say a.to(nobody); } lack (2) { say a.owner == p; say p.held == a; "
+            + "}"), 0, 0, "1 1");
+        checks.plays(in(made + "p.row = new row[1]; say p.many(); say p.first() == nobody; p.row = new row[0]; say p.many();"), 0, 0, "1 "
+            + "1 0");
+        checks.plays(in(made + "p.lamp = l; say p.shine(-3); say l.light; s.lamp = l; s.pitch = 10; say s.glow(1); say "
+            + "l.light;"), 0, 0, "-3 -3 8 -2");
     }
 
     private static void places(Checks checks) {
@@ -236,11 +262,14 @@ public final class EdgesPlaysTest {
     }
 
     private static void tries(Checks checks) {
-        checks.sentence("If an UPSET comes out of it, the first lack that has its kind, if a CUE, the first cue ( ) is done in its place (the local is that cue).");
+        checks.sentence("If an UPSET comes out of it, the first lack that has its kind, if a CUE, the first cue ( ) is done in its place "
+            + "(the local is that cue).");
         checks.plays(in("try { say 1; } lack (11) { say 2; } cue (d) { say 3; } say 4;"), 0, 0, "1 4");
-        checks.plays(in("try { say 1 / 0; say 1; } cue (d) { say 2; } lack (10, 12) { say 3; } lack (1, 11) { say 4; } lack (11) { say 5; } say 6;"),
+        checks.plays(in("try { say 1 / 0; say 1; } cue (d) { say 2; } lack (10, 12) { say 3; } lack (1, 11) { say 4; } lack (11) { say "
+            + "5; } say 6;"),
             0, 0, "4 6");
-        checks.plays(in("try { throw new cue(9); } lack (1, 2, 3, 4, 5, 6, 7, 8, 9, 10, 11, 12) { say 1; } cue (d) { say d.number; } cue (e) { say 3; }"),
+        checks.plays(in("try { throw new cue(9); } lack (1, 2, 3, 4, 5, 6, 7, 8, 9, 10, 11, 12) { say 1; } cue (d) { say d.number; } cue "
+            + "(e) { say 3; }"),
             0, 0, "9");
         checks.plays(in("c = new cue(2); try { throw c; } cue (d) { say d == c; d.number = 3; } say c.number;"), 0, 0, "1 3");
         checks.plays(in("try { say 1 / 0; } lack (10, 12) { say 1; } cue (d) { say 2; }"), 1, 11, "");
@@ -253,7 +282,8 @@ public final class EdgesPlaysTest {
             "p = (new row[0])[0];", "s = (new puppet) as singer;", "n = 1 % 0;", "r = new row[-1];"};
         for (int kind : kinds) {
             for (int other : kinds) {
-                checks.plays(in("try { " + doings[kind - 1] + " } lack (" + other + ") { say 7; }"), kind == other ? 0 : 1, kind == other ? 0 : kind,
+                checks.plays(in("try { " + doings[kind - 1] + " } lack (" + other + ") { say 7; "
+                    + "}"), kind == other ? 0 : 1, kind == other ? 0 : kind,
                     kind == other ? "7" : "");
             }
         }
@@ -286,7 +316,14 @@ public final class EdgesPlaysTest {
                 checks.plays(String.format(left, ways[i], others[j]), 0, 0, "8 " + (j == 0 ? ends[i] : otherEnds[j]));
             }
         }
-        checks.plays(in("while (n < 3) { n = n + 1; try { try { n = n / 0; } always { say n; } } lack (11) { say 5; } always { say 6; } } say 7;"),
+        checks.plays(in("try { try { say 1; } always { n = n / 0; } } lack (11) { say 2; } say 3;"), 0, 0, "1 2 3");
+        checks.plays(in("try { try { n = n / 0; } lack (11) { n = #r; } always { throw new cue(4); } } lack (6) { say 1; } cue (d) { say "
+            + "d.number; } say 3;"),
+            0, 0, "4 3");
+        checks.plays(in("try { try { try { throw c; } always { say 1; } } always { say 2; n = #r; } } lack (5) { say 3; } lack (6) { say "
+            + "4; }"), 0, 0, "1 2 4");
+        checks.plays(in("while (n < 3) { n = n + 1; try { try { n = n / 0; } always { say n; } } lack (11) { say 5; } always { say 6; } "
+            + "} say 7;"),
             0, 0, "1 5 6 2 5 6 3 5 6 7");
     }
 
@@ -308,10 +345,12 @@ public final class EdgesPlaysTest {
     }
 
     private static void fuel(Checks checks) {
-        checks.sentence("FUEL: one for each STATEMENT that begins, each time that the E of a while is worked, each call of a SCENE or ACT (behind its parts, and behind 3 CALL).");
+        checks.sentence("FUEL: one for each STATEMENT that begins, each time that the E of a while is worked, each call of a SCENE or "
+            + "ACT (behind its parts, and behind 3 CALL).");
         fuelled(checks, in(""), 0, "");
         fuelled(checks, in("say 1;"), 1, "1");
-        fuelled(checks, in("var v: int = 1; n = v; say n; throw2(); give;") + " scene throw2() { try { throw new cue(1); } cue (d) {} }", 8, "1");
+        fuelled(checks, in("var v: int = 1; n = v; say n; throw2(); give;") + " scene throw2() { try { throw new cue(1); } cue (d) {} "
+            + "}", 8, "1");
         fuelled(checks, in("if (1) { say 1; } else { say 2; }"), 2, "1");
         fuelled(checks, in("if (0) {} else if (0) {} else if (0) {} else {}"), 1, "");
         fuelled(checks, in("while (0) { say 1; }"), 2, "");
@@ -331,9 +370,37 @@ public final class EdgesPlaysTest {
         PromptBook parts = checks.sound(in("f(1 / 0);") + " scene f(i: int) {}");
         checks.due("its parts come ahead", parts.play(0, 0, 0, 1), 1);
         checks.sentence("ENDS, which no part sees, and in which nothing more is done:");
-        PromptBook seen = checks.sound(in("try { n = 1; while (1) {} } lack (1, 2, 3, 4, 5, 6, 7, 8, 9, 10, 11, 12) { n = 2; } cue (d) { n = 3; } always { n = 4; }"));
+        PromptBook seen = checks.sound(in("try { n = 1; while (1) {} } lack (1, 2, 3, 4, 5, 6, 7, 8, 9, 10, 11, 12) { n = 2; } cue (d) { "
+            + "n = 3; } always { n = 4; }"));
         checks.due("play", seen.play(0, 0, 0, 50), 3);
         checks.due("all that was done stays, and no more", seen.stage(0, 0), 1);
+    }
+
+    private static void behindEnds(Checks checks) {
+        checks.sentence("ENDS, which no part sees, and in which nothing more is done:");
+        PromptBook book = checks.sound(in("try { f(1); } lack (11) { say 1; } cue (d) { say 2; } always { say 3; }")
+            + " scene f(i: int) { try { if (i) { f(0); } else { while (1) {} } } lack (11) { say 4; } always { say 5; } } scene upset() "
+            + "{ n = g(); } "
+            + "scene g(): int { n = h(); } scene h(): int { n = 1 / 0; } scene cued() { throw new cue(8); }");
+        for (int i = 0; i < 3; i++) {
+            checks.due("FUEL", book.play(0, 0, 0, 30), 3);
+            checks.due("SAID", Checks.said(book), "");
+            // No try of the play that came to its END is left for the next one.
+            checks.due("an UPSET", book.play(2, 0, 0, 30), 1);
+            checks.due("SAID", Checks.said(book), "");
+            checks.due("FUEL", book.play(0, 0, 0, 30), 3);
+            checks.due("a CUE", book.play(5, 0, 0, 30), 2);
+            checks.due("SAID", Checks.said(book), "");
+        }
+        checks.sentence("if ( E ) BLOCK {else if ( E ) BLOCK} [else BLOCK]");
+        PromptBook chain = checks.sound("scene main(k: int) { if (k == 0) { say 0; } else if (k == 1) { say 1; } else if (k == 2) { say "
+            + "2; } else { say 3; } say 9; "
+            + "if (k == 0) { say 5; } else if (k == 1) { say 6; } say 8; }");
+        String[] due = {"0 9 5 8", "1 9 6 8", "2 9 8", "3 9 8"};
+        for (int k = 0; k < due.length; k++) {
+            checks.due("play of " + k, chain.play(0, k, 0, 30), 0);
+            checks.due("SAID of " + k, Checks.said(chain), due[k]);
+        }
     }
 
     private static void deep(Checks checks) {
@@ -353,14 +420,16 @@ public final class EdgesPlaysTest {
         checks.due("it is not", book.play(0, 17, 0, 63), 3);
         checks.due("a SCENE and 15 ACTS", book.play(1, 15, 0, 100), 0);
         checks.due("a SCENE and 16 ACTS", book.play(1, 16, 0, 100), 4);
-        checks.plays(in("try { f(); } lack (3) { say 1; } cue (d) { say 2; } always { say 3; }") + " scene f() { try { f(); } always { say 4; } }", 4, 0, "");
+        checks.plays(in("try { f(); } lack (3) { say 1; } cue (d) { say 2; } always { say 3; }") + " scene f() { try { f(); } always { "
+            + "say 4; } }", 4, 0, "");
         checks.plays(in("while (n < 40) { n = n + 1; f(); } say n;") + " scene f() { g(); } scene g() {}", 0, 0, "40");
     }
 
     private static void fullOfThings(Checks checks) {
         checks.sentence("FULL: more than 20,000 things (cues and rows, too) would have been made in all,");
-        String text = "stage k: int; scene many(n: int) { k = 0; while (k < n) { k = k + 1; var v: prop = new prop; } } scene main() { %s; k = 9; }";
-        String[] last = {"var v: prop = new prop", "var v: cue = new cue(1)", "var v: row = new row[0]"};
+        String text = "stage k: int; scene many(n: int) { k = 0; while (k < n) { k = k + 1; var v: prop = new prop; } } scene main() { "
+            + "%s; k = 9; }";
+        String[] last = {"var v: prop = new prop", "var v: cue = new cue(1)", "var v: row = new row[0]", "var v: row = new row[5]"};
         for (String each : last) {
             PromptBook book = checks.sound(String.format(text, each));
             for (int i = 0; i < 3; i++) {
@@ -373,6 +442,7 @@ public final class EdgesPlaysTest {
             checks.due("a new book", Checks.take(book, String.format(text, each)), "2");
             checks.due("the 20,001st: " + each, book.play(1, 0, 0, 9), 5);
             checks.due("things still", book.about(6), 20000);
+            checks.due("items", book.about(7), each.endsWith("[5]") ? 5 : 0);
             checks.due("FUEL left", book.about(4), 8);
             checks.due("what is behind is not done", book.stage(0, 0), 0);
         }
@@ -418,7 +488,8 @@ public final class EdgesPlaysTest {
 
     private static void behindFull(Checks checks) {
         checks.sentence("Behind a FULL each play() that is not NONE is FULL at once: nothing is done or SAID, all FUEL is left.");
-        String text = "stage k: int; scene rows(n: int) { while (n > 0) { n = n - 1; var v: row = new row[1000]; } } scene one(a: int): int { k = 7; say a; give a; } "
+        String text = "stage k: int; scene rows(n: int) { while (n > 0) { n = n - 1; var v: row = new row[1000]; } } scene one(a: int): "
+            + "int { k = 7; say a; give a; } "
             + "scene none(a: row) {}";
         PromptBook book = checks.sound(text);
         checks.due("FULL", book.play(0, 61, 0, 20000), 5);

@@ -125,7 +125,8 @@ public final class EdgesPromisesTest {
     }
 
     private static void faults(Checks checks) {
-        checks.sentence("Of the latest book() that had as many bytes as told: 0 its FAULT (0: none, also ahead of any), 1 the place (NONE without one). NONE for others.");
+        checks.sentence("Of the latest book() that had as many bytes as told: 0 its FAULT (0: none, also ahead of any), 1 the place "
+            + "(NONE without one). NONE for others.");
         PromptBook book = new PromptBook();
         faultIs(checks, book, 0, -1);
         Checks.bookOf(book, 1);
@@ -207,7 +208,8 @@ public final class EdgesPromisesTest {
     }
 
     private static void beginnings(Checks checks) {
-        checks.sentence("(Nothing is SAID when it begins; it is no call of a SCENE: it takes no FUEL of its own, and is the first of the 16.)");
+        checks.sentence("(Nothing is SAID when it begins; it is no call of a SCENE: it takes no FUEL of its own, and is the first of the "
+            + "16.)");
         PromptBook book = checks.sound("scene a() { say 1; } scene b() {} scene c(n: int) { if (n > 1) { c(n - 1); } }");
         book.play(0, 0, 0, 9);
         checks.due("an empty SCENE without FUEL", book.play(1, 0, 0, 0), 0);
@@ -235,7 +237,9 @@ public final class EdgesPromisesTest {
         told(checks, book, "ahead of any", new int[] {-1, 0, -1, 0, 0, 0, 0, 0, 0});
         book.play(0, 0, 0, -1);
         told(checks, book, "behind NONE", new int[] {-1, 0, -1, 0, 0, 0, 0, 0, 0});
-        checks.sentence("Of the latest play() that was not NONE: 0 what it answered; 1 the UPSET's kind, the CUE's number (0 for others); 2 their place in the book (NONE for others); 3 what the SCENE gave, if it came to its end and tells int (else 0); 4 FUEL that was left; 5 how many numbers were SAID.");
+        checks.sentence("Of the latest play() that was not NONE: 0 what it answered; 1 the UPSET's kind, the CUE's number (0 for "
+            + "others); 2 their place in the book (NONE for others); 3 what the SCENE gave, if it came to its end and tells int (else "
+            + "0); 4 FUEL that was left; 5 how many numbers were SAID.");
         book.play(2, 9, 4, 10);
         told(checks, book, "of an end", new int[] {0, 0, -1, 5, 9, 0, 0, 0, 0});
         book.play(0, 9, 4, 10);
@@ -251,10 +255,13 @@ public final class EdgesPromisesTest {
         book.play(9, 9, 4, 40);
         told(checks, book, "of DEEP", new int[] {4, 0, -1, 0, 8, 0, 1, 0, 1});
         PromptBook gave = checks.sound("scene a(n: int): int { if (n) { say n; say 1 / (n - 1); give n; } }");
+        gave.play(0, -5, 0, 10);
+        checks.due("about(3)", gave.about(3), -5);
         gave.play(0, 1, 0, 10);
         checks.due("about(3) of an UPSET", gave.about(3), 0);
         gave.play(0, -5, 0, 10);
-        checks.due("about(3)", gave.about(3), -5);
+        gave.play(0, -5, 0, 2);
+        checks.due("about(3) of FUEL", gave.about(3), 0);
         gave.play(0, 0, 0, 10);
         checks.due("about(3) without give", gave.about(3), 0);
         PromptBook cued = checks.sound("scene a(n: int) { throw new cue(n); }");
@@ -267,7 +274,8 @@ public final class EdgesPromisesTest {
 
     private static void aboutAll(Checks checks) {
         checks.sentence("Of all: 6 things made, 7 items of rows, 8 UPSETS. NONE for others.");
-        PromptBook book = checks.sound("scene a() { var v: row = new row[7]; var c: cue = new cue(1); var l: lamp = new lamp; var e: row = new row[0]; "
+        PromptBook book = checks.sound("scene a() { var v: row = new row[7]; var c: cue = new cue(1); var l: lamp = new lamp; var e: row "
+            + "= new row[0]; "
             + "try { say 1 / 0; } lack (11) {} v = new row[1001]; }");
         for (int i = 1; i <= 3; i++) {
             book.play(0, 0, 0, 50);
@@ -279,8 +287,10 @@ public final class EdgesPromisesTest {
     }
 
     private static void saying(Checks checks) {
-        checks.sentence("Number i that was SAID in the latest play (the first 2,000 are kept). NoSuchElementException: there is none such.");
-        PromptBook book = checks.sound("scene a(n: int) { var i: int = 0; while (i < n) { i = i + 1; say i * 10; } } scene b() { say 1 / 0; }");
+        checks.sentence("Number i that was SAID in the latest play (the first 2,000 are kept). NoSuchElementException: there is none "
+            + "such.");
+        PromptBook book = checks.sound("scene a(n: int) { var i: int = 0; while (i < n) { i = i + 1; say i * 10; } } scene b() { say 1 / "
+            + "0; }");
         checks.due("said(0) ahead of any", Checks.saidOf(book, 0), Checks.THROWS_NO_SUCH);
         for (int count : new int[] {1, 2, 1999, 2000, 2001, 2500}) {
             book.play(0, count, 0, 20000);
@@ -298,10 +308,14 @@ public final class EdgesPromisesTest {
     }
 
     private static void staging(Checks checks) {
-        checks.sentence("Of STAGE k what 0: its number, if it tells int, else what it has: 0 nobody, 1 a prop, 2 a lamp, 3 a puppet, 4 a singer, 5 a walker, 6 a row, 7 a cue;");
-        PromptBook book = checks.sound("stage n: int; stage a: prop; stage l: lamp; stage p: puppet; stage q: puppet; stage o: puppet; stage r: row; stage c: cue; "
-            + "stage x: speaker; stage m: mover; stage g: glower; stage z: row; scene fill() { n = 0 - 1; a = new prop; l = new lamp; p = new puppet; q = new singer; "
-            + "o = new walker; r = new row[1000]; c = new cue(0); x = q as singer; m = o as walker; g = l; z = new row[0]; } scene empty() { a = nobody; l = nobody; "
+        checks.sentence("Of STAGE k what 0: its number, if it tells int, else what it has: 0 nobody, 1 a prop, 2 a lamp, 3 a puppet, 4 a "
+            + "singer, 5 a walker, 6 a row, 7 a cue;");
+        PromptBook book = checks.sound("stage n: int; stage a: prop; stage l: lamp; stage p: puppet; stage q: puppet; stage o: puppet; "
+            + "stage r: row; stage c: cue; "
+            + "stage x: speaker; stage m: mover; stage g: glower; stage z: row; scene fill() { n = 0 - 1; a = new prop; l = new lamp; p "
+            + "= new puppet; q = new singer; "
+            + "o = new walker; r = new row[1000]; c = new cue(0); x = q as singer; m = o as walker; g = l; z = new row[0]; } scene "
+            + "empty() { a = nobody; l = nobody; "
             + "p = q; q = nobody; n = 0; r = z; }");
         stagesAre(checks, book, 0, new int[] {0, 0, 0, 0, 0, 0, 0, 0, 0, 0, 0, 0});
         stagesAre(checks, book, 1, new int[] {0, 1, 2, 3, 4, 5, 6, 7, 8, 9, 10, 11});
@@ -335,21 +349,29 @@ public final class EdgesPromisesTest {
     }
 
     private static void fields(Checks checks) {
-        checks.sentence("Field f of the thing that STAGE k has, in the order told in 2. (of singers, walkers those of puppets first; of cues 0 number, 1 about; of rows item f):");
+        checks.sentence("Field f of the thing that STAGE k has, in the order told in 2. (of singers, walkers those of puppets first; of "
+            + "cues 0 number, 1 about; of rows item f):");
         String head = "stage n: int; stage t: %s; scene main() { n = 7; var v: %s = new %s; t = v; ";
-        String puppet = "v.age = -1; v.held = new prop; v.master = new walker; v.lamp = new lamp; v.row = new row[1]; v.word = new cue(1); ";
-        fieldsAre(checks, String.format(head, "prop", "prop", "prop") + "v.weight = -5; v.owner = new singer; v.inside = v; }", new int[] {-5, 4, 21});
-        fieldsAre(checks, String.format(head, "glower", "lamp", "lamp") + "v.light = 0; v.next = v; v.on = new puppet; }", new int[] {0, 22, 3});
+        String puppet = "v.age = -1; v.held = new prop; v.master = new walker; v.lamp = new lamp; v.row = new row[1]; v.word = new "
+            + "cue(1); ";
+        fieldsAre(checks, String.format(head, "prop", "prop", "prop") + "v.weight = -5; v.owner = new singer; v.inside = v; "
+            + "}", new int[] {-5, 4, 21});
+        fieldsAre(checks, String.format(head, "glower", "lamp", "lamp") + "v.light = 0; v.next = v; v.on = new puppet; "
+            + "}", new int[] {0, 22, 3});
         fieldsAre(checks, String.format(head, "puppet", "puppet", "puppet") + puppet + "}", new int[] {-1, 1, 5, 2, 6, 7});
         fieldsAre(checks, String.format(head, "puppet", "singer", "singer") + puppet + "v.pitch = 9; }", new int[] {-1, 1, 5, 2, 6, 7, 9});
-        fieldsAre(checks, String.format(head, "mover", "walker", "walker") + puppet + "v.pace = 8; v.next = v; }", new int[] {-1, 1, 5, 2, 6, 7, 8, 25});
+        fieldsAre(checks, String.format(head, "mover", "walker", "walker") + puppet + "v.pace = 8; v.next = v; "
+            + "}", new int[] {-1, 1, 5, 2, 6, 7, 8, 25});
         fieldsAre(checks, String.format(head, "cue", "cue", "cue(-3)") + "v.about = new singer; }", new int[] {-3, 4});
         fieldsAre(checks, String.format(head, "row", "row", "row[3]") + "v[0] = new singer; v[2] = new walker; }", new int[] {4, 0, 5});
         fieldsAre(checks, String.format(head, "row", "row", "row[0]") + "}", new int[0]);
         fieldsAre(checks, String.format(head, "row", "row", "row[0]") + "t = nobody; }", new int[0]);
-        checks.sentence("of others what it has, as of stage(), and ten times as much as the least STAGE that has that thing, 1 more (nothing more without such a STAGE).");
-        PromptBook book = checks.sound("stage a: puppet; stage b: puppet; stage c: int; stage d: puppet; stage e: puppet; stage f: puppet; stage g: puppet; "
-            + "stage h: puppet; stage i: puppet; stage j: puppet; stage k: puppet; stage l: walker; scene main() { l = new walker; l.master = l; a = new singer; "
+        checks.sentence("of others what it has, as of stage(), and ten times as much as the least STAGE that has that thing, 1 more "
+            + "(nothing more without such a STAGE).");
+        PromptBook book = checks.sound("stage a: puppet; stage b: puppet; stage c: int; stage d: puppet; stage e: puppet; stage f: "
+            + "puppet; stage g: puppet; "
+            + "stage h: puppet; stage i: puppet; stage j: puppet; stage k: puppet; stage l: walker; scene main() { l = new walker; "
+            + "l.master = l; a = new singer; "
             + "a.master = a; b = new singer; b.master = l; d = a; e = new puppet; e.master = d; }");
         book.play(0, 0, 0, 50);
         checks.due("STAGE 11", book.field(11, 2), 5 + 120);

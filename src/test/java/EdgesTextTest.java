@@ -44,6 +44,10 @@ public final class EdgesTextTest {
     private static void tokens(Checks checks) {
         checks.sentence("NAMES (a letter a .. z, then letters and digits, as many as there are)");
         checks.sound("stage a: int; stage z: int; stage a0: int; stage z9: int; stage a0b1: int;");
+        checks.sound("stage az: int; stage a0: int; stage a1: int; stage b: int; stage ba: int; stage b0: int; stage z9: int; stage za: "
+            + "int;");
+        checks.sound("stage a23456789012: int; stage b23456789012: int; stage a23456789013: int; stage a2345678901: int;");
+        checks.faulty(2, "stage a23456789012: int; stage ^a23456789012: int;");
         checks.faulty(1, "stage ^`: int;");
         checks.faulty(1, "stage ^{: int;");
         checks.faulty(1, "stage ^A: int;");
@@ -113,7 +117,7 @@ public final class EdgesTextTest {
         checks.faulty(1, "stage a: int; ^;");
         checks.faulty(1, "^say 1;");
 
-        checks.sentence("SCENE: scene NAME ( [NAME : TYPE {, NAME : TYPE}] ) [: TYPE] BLOCK. ACT: act KIND NAME (..");
+        checks.sentence("SCENE: scene NAME ( [NAME : TYPE {, NAME : TYPE}] ) [: TYPE] BLOCK. ACT: act KIND NAME ( ..");
         checks.sound("scene a() {} scene b(x: int) {} scene c(x: int, y: row): cue {}");
         checks.faulty(1, "scene a(^,) {}");
         checks.faulty(1, "scene a(x: int,^) {}");
@@ -133,7 +137,8 @@ public final class EdgesTextTest {
         checks.faulty(1, in("if (^) {}"));
         checks.faulty(1, in("while (0) {} ^else {}"));
 
-        checks.sentence("try BLOCK {lack ( NUMBER {, NUMBER} ) BLOCK | cue ( NAME ) BLOCK} [always BLOCK], with at least one behind the first BLOCK.");
+        checks.sentence("try BLOCK {lack ( NUMBER {, NUMBER} ) BLOCK | cue ( NAME ) BLOCK} [always BLOCK], with at least one behind the "
+            + "first BLOCK.");
         checks.sound(in("try {} lack (1) {} try {} cue (a) {} try {} always {} try {} cue (a) {} lack (2, 3) {} always {}"));
         checks.faulty(1, in("try {} ^"));
         checks.faulty(1, in("try {} ^try {} always {}"));
@@ -159,9 +164,15 @@ public final class EdgesTextTest {
         checks.faulty(1, in("a[0]^;"));
         checks.faulty(1, in("a().b^;"));
         checks.faulty(1, in("a ^== 1;"));
+        checks.faulty(1, in("a ^a = 1;"));
+        checks.faulty(1, in("a ^say 1;"));
+        checks.faulty(1, in("a ^"));
+        checks.faulty(1, in("a.b ^if (1) {}"));
+        checks.faulty(1, in("a() ^a();"));
 
         checks.sentence("A PATH that a STATEMENT begins with begins with a NAME (no WORD), me or (.");
-        checks.sound("stage p: puppet; scene s() { p.age = 1; s(); (new puppet).age = 2; (p).lift(); } act prop q() { me.weight = 1; me.q(); }");
+        checks.sound("stage p: puppet; scene s() { p.age = 1; s(); (new puppet).age = 2; (p).lift(); } act prop q() { me.weight = 1; "
+            + "me.q(); }");
         checks.faulty(1, in("^new puppet;"));
         checks.faulty(1, in("^nobody.lift();"));
         checks.faulty(1, in("^1.go(1);"));
@@ -190,10 +201,17 @@ public final class EdgesTextTest {
         checks.faulty(1, in("say ^+ 1;"));
         checks.faulty(1, in("say 1 - ^;"));
 
-        checks.sentence("BASE: NUMBER, nobody, me, NAME, NAME ( [E {, E}] ) (a call of a scene), ( E ), new KIND, new cue ( E ), new row [ E ].");
+        checks.sentence("BASE: NUMBER, nobody, me, NAME, NAME ( [E {, E}] ) (a call of a scene), ( E ), new KIND, new cue ( E ), new row "
+            + "[ E ].");
         for (String none : "int speaker mover glower nobody a".split(" ")) {
             checks.faulty(1, in("say new ^" + none + ";"));
         }
+        checks.faulty(1, in("say new ^;"));
+        checks.faulty(1, in("say new ^.age;"));
+        checks.faulty(1, in("say a.^;"));
+        checks.faulty(1, in("say a.^1;"));
+        checks.faulty(1, in("say a.^(1);"));
+        checks.faulty(1, in("say a.^.b;"));
         checks.faulty(1, in("say (^);"));
         checks.faulty(1, in("say me^(1);"));
         checks.faulty(1, in("say nobody^(1);"));
@@ -211,7 +229,19 @@ public final class EdgesTextTest {
         checks.sentence("1 at the first token with which no book goes on (what is no token: at its first byte;");
         checks.faulty(1, in("say 1 ^1; ? $"));
         checks.faulty(1, in("say 1; ^? say 1 1;"));
+        String all = "stage a : int ; scene s ( b : int , c : row ) : int { var v : int = - ( ( 1 ) ) + # c * ! 2 ; c [ 0 ] = nobody ; "
+            + "if ( v == 1 & 2 | 3 ) { say s ( 1 , c ) ; } else { give 1 ; } try { { ";
+        for (int end = all.indexOf(' '); end >= 0; end = all.indexOf(' ', end + 1)) {
+            if (end < all.lastIndexOf("{ ")) {
+                checks.faulty(1, all.substring(0, end) + "^?");
+            }
+        }
         checks.sentence("the text's length, if it ends too soon;");
+        for (int end = all.indexOf(' '); end >= 0; end = all.indexOf(' ', end + 1)) {
+            if (end < all.lastIndexOf("{ ") && !all.startsWith("; scene", end - 1)) {
+                checks.faulty(1, all.substring(0, end) + "^");
+            }
+        }
         checks.faulty(1, "stage^");
         checks.faulty(1, "stage a: int^");
         checks.faulty(1, "stage a: int \n ^");
@@ -343,7 +373,8 @@ public final class EdgesTextTest {
         checks.faulty(3, "scene s(x: int) { say zz; } act walker ^w() {} act puppet w(): int {}");
         checks.faulty(2, "scene s(x: int) { say ^zz; } act walker w(): int {} act puppet w(): int { say yy; }");
 
-        checks.sentence("each ACT's that an earlier one of its KIND has, or that is a field or call of this KIND (for puppet also of singer or walker)");
+        checks.sentence("each ACT's that an earlier one of its KIND has, or that is a field or call of this KIND (for puppet also of "
+            + "singer or walker)");
         checks.sound("act puppet q() {} act singer q() {} act walker q() {} act prop q() {} act lamp q() {}");
         checks.faulty(2, "act lamp q() {} act lamp ^q() {}");
         for (String taken : "weight owner inside heft to go".split(" ")) {
@@ -364,7 +395,8 @@ public final class EdgesTextTest {
         checks.sound("act singer pace() {} act singer next() {} act singer go() {} act walker pitch() {} act walker glow() {}");
         checks.sound("act lamp weight() {} act prop light() {} act puppet number() {} act puppet about() {}");
 
-        checks.sentence("each ACT of singer or walker that has the NAME of one of puppet, but not the same types of parameters and the same type (or none)");
+        checks.sentence("each ACT of singer or walker that has the NAME of one of puppet, but not the same types of parameters and the "
+            + "same type (or none)");
         checks.sound("act puppet q(a: int, b: row): cue {} act singer q(c: int, d: row): cue {}");
         checks.faulty(3, "act puppet q(a: int, b: row) {} act singer ^q(a: int) {}");
         checks.faulty(3, "act puppet q(a: int, b: row) {} act singer ^q(a: int, b: row, c: int) {}");
@@ -374,7 +406,8 @@ public final class EdgesTextTest {
         checks.faulty(3, "act walker ^q(): int {} act puppet q() {}");
         checks.sound("act singer q(): int {} act walker q() {} act prop q(a: int) {}");
 
-        checks.sentence("the NAME of a var, of cue ( ) ahead of what is behind it; of a call its NAME, then its parts, how many they are, their types, what it gives");
+        checks.sentence("the NAME of a var, of cue ( ) ahead of what is behind it; of a call its NAME, then its parts, how many they "
+            + "are, their types, what it gives");
         String head = "scene t(i: int, j: int) {} ";
         checks.faulty(2, head + in("var a: int = 1; var ^a: int = zz;"));
         checks.faulty(2, head + in("try {} cue (a) { try {} cue (^a) { say zz; } }"));

@@ -84,7 +84,8 @@ public final class EdgesTypesTest {
     }
 
     private static void locals(Checks checks) {
-        checks.sentence("the innermost local of that NAME that is told ahead of it in this BLOCK or one around (of cue ( ): in its BLOCK), else the STAGE.");
+        checks.sentence("the innermost local of that NAME that is told ahead of it in this BLOCK or one around (of cue ( ): in its "
+            + "BLOCK), else the STAGE.");
         checks.plays("stage v: int; scene main() { v = 1; if (1) { var v: int = 2; say v; v = 3; say v; } say v; "
             + "while (v == 1) { say v; var v: int = 4; say v; v = 5; other(); } say v; } scene other() { v = 9; }", 0, 0, "2 3 1 1 4 9");
         checks.plays("stage v: int; scene main(v: int) { say v; v = 6; say v; other(); } scene other() { say v; }", 0, 0, "0 6 0");
@@ -113,7 +114,8 @@ public final class EdgesTypesTest {
     }
 
     private static void wrongNames(Checks checks) {
-        checks.sentence("FAULT 2, at the NAME: one that is none, or was in sight; a SCENE that is none; a field or call that its type has not (at the NAME behind the .); me in a SCENE.");
+        checks.sentence("FAULT 2, at the NAME: one that is none, or was in sight; a SCENE that is none; a field or call that its type "
+            + "has not (at the NAME behind the .); me in a SCENE.");
         checks.faulty(2, in("say ^zz;"));
         checks.faulty(2, in("^zz = 1;"));
         checks.faulty(2, in("say ^main;"));
@@ -166,7 +168,8 @@ public final class EdgesTypesTest {
         checks.sentence("a KIND or ROLE (not nobody) ahead of as and is;");
         must(checks, "prop lamp puppet singer walker speaker mover glower", "a = ", " as prop;");
         must(checks, "prop lamp puppet singer walker speaker mover glower", "n = ", " is glower;");
-        checks.sentence("at the first token of the E, A, C, .. or PATH that has another type than it must (of a PATH's parts: of the BASE)");
+        checks.sentence("at the first token of the E, A, C, .. or PATH that has another type than it must (of a PATH's parts: of the "
+            + "BASE)");
         checks.faulty(3, in("say ^(p);"));
         checks.faulty(3, in("say ^p.master.master;"));
         checks.faulty(3, in("say ^new prop;"));
@@ -177,6 +180,16 @@ public final class EdgesTypesTest {
         checks.faulty(3, in("say 1 + 2 * ^(p) - 3;"));
         checks.faulty(3, in("p = ^1 + 2 * 3;"));
         checks.faulty(3, in("p = ^-1;"));
+        checks.faulty(3, in("p = ^#r;"));
+        checks.faulty(3, in("p = ^n == n;"));
+        checks.faulty(3, in("p = ^n < n;"));
+        checks.faulty(3, in("p = ^n & n;"));
+        checks.faulty(3, in("p = ^n | n;"));
+        checks.faulty(3, in("p = ^p is singer;"));
+        checks.faulty(3, in("r = ^p.q(1);") + " act puppet q(i: int): int {}");
+        checks.faulty(3, in("say 1 + ^p.q(1, 2);") + " act puppet q(i: int, j: int): row {}");
+        checks.faulty(3, in("say f(1, ^p.first());") + " scene f(i: int, j: int): int {}");
+        checks.faulty(3, in("say f(1, ^f(2, 3));") + " scene f(i: int, j: int): row {}");
         checks.faulty(3, in("p = ^p.held[0];"));
         checks.faulty(3, in("say #^p.held;"));
         checks.faulty(3, in("^p.held[0] = p;"));
@@ -207,7 +220,8 @@ public final class EdgesTypesTest {
 
     private static void calls(Checks checks) {
         String more = " scene none() {} scene two(i: int, j: puppet): int {} act puppet quiet() {} act puppet tells(i: int): int {}";
-        checks.sentence("Of a call with too few or too many: at its NAME, ahead of its parts' types (these are looked at first by themselves).");
+        checks.sentence("Of a call with too few or too many: at its NAME, ahead of its parts' types (these are looked at first by "
+            + "themselves).");
         checks.faulty(3, in("^two();") + more);
         checks.faulty(3, in("^two(1);") + more);
         checks.faulty(3, in("^two(1, p, 1);") + more);
@@ -226,7 +240,20 @@ public final class EdgesTypesTest {
         checks.faulty(3, in("two(^p, 1);") + more);
         checks.faulty(3, in("two(1, ^1);") + more);
 
-        checks.sentence("A SCENE or ACT that tells no TYPE is called at the end of a PATH that is a STATEMENT alone: else at its NAME (there).");
+        checks.sentence("what fits: for = and var, parameters of calls, give");
+        checks.faulty(3, in("say a.heft(^p);") + more);
+        checks.faulty(3, in("say a.to(^a);") + more);
+        checks.faulty(3, in("say a.to(^x);") + more);
+        checks.faulty(3, in("say a.go(^nobody);") + more);
+        checks.faulty(3, in("say l.glow(^l);") + more);
+        checks.faulty(3, in("say p.shine(^r);") + more);
+        checks.faulty(3, in("say s.line(^c);") + more);
+        checks.faulty(3, in("say m.go(^m);") + more);
+        checks.faulty(3, in("say p.tells(^p);") + more);
+        checks.sound(in("say a.to(s) + a.to(w) + a.to(nobody) + a.to(p.first());") + more);
+
+        checks.sentence("A SCENE or ACT that tells no TYPE is called at the end of a PATH that is a STATEMENT alone: else at its NAME "
+            + "(there).");
         checks.sound(in("none(); p.quiet(); p.first().quiet(); two(1, p); p.tells(1); p.lift();") + more);
         for (String wrong : new String[] {"say ^none();", "n = p.^quiet();", "^none().quiet();", "p.^quiet().quiet();", "two(^none(), p);",
             "say (^none());", "if (^none()) {}", "throw ^none();", "r[^none()] = p;", "^none()[0] = p;", "p.^quiet().age = 1;",

@@ -37,7 +37,8 @@ public final class UnsurePlacesTest {
 
     /** Nobody fits row and cue; only ahead of as and is the document says "not nobody". */
     private static void literalNobody(Checks checks) {
-        checks.sentence("nobody fits all but int. .. row for # and ahead of [ ]; cue for throw; a KIND or ROLE (not nobody) ahead of as and is;");
+        checks.sentence("nobody fits all but int. .. row for # and ahead of [ ]; cue for throw; a KIND or ROLE (not nobody) ahead of as "
+            + "and is;");
         checks.upsets(in("say ^#nobody;"), 1, 6);
         checks.upsets(in("p = nobody^[0];"), 1, 7);
         checks.upsets(in("(nobody)^[0] = p;"), 1, 8);
@@ -74,7 +75,8 @@ public final class UnsurePlacesTest {
     /** The whole if with its else if is one STATEMENT. */
     private static void fuelOfElseIf(Checks checks) {
         checks.sentence("FUEL: one for each STATEMENT that begins");
-        PromptBook book = checks.sound("scene main(k: int) { if (k == 0) { say 0; } else if (k == 1) { say 1; } else if (k == 2) { say 2; } else { say 3; } }");
+        PromptBook book = checks.sound("scene main(k: int) { if (k == 0) { say 0; } else if (k == 1) { say 1; } else if (k == 2) { say "
+            + "2; } else { say 3; } }");
         for (int k = 0; k < 4; k++) {
             checks.due("play of " + k, book.play(0, k, 0, 2), 0);
             checks.due("FUEL left of " + k, book.about(4), 0);
@@ -106,7 +108,8 @@ public final class UnsurePlacesTest {
     /** Ten times the number that is 1 more than the least STAGE: so STAGE 0 is told from none. */
     private static void fieldWithStage(Checks checks) {
         checks.sentence("and ten times as much as the least STAGE that has that thing, 1 more (nothing more without such a STAGE).");
-        PromptBook book = checks.sound("stage a: puppet; stage b: row; stage c: puppet; scene main() { a = new singer; c = new walker; b = new row[4]; "
+        PromptBook book = checks.sound("stage a: puppet; stage b: row; stage c: puppet; scene main() { a = new singer; c = new walker; b "
+            + "= new row[4]; "
             + "b[0] = a; b[1] = c; b[2] = new singer; a.row = b; a.master = c; c.master = a; }");
         book.play(0, 0, 0, 50);
         int[] items = {14, 35, 4, 0};
