@@ -9,6 +9,7 @@ public final class EdgesPlaysTest {
         numbers(checks);
         shortened(checks);
         order(checks);
+        deepest(checks);
         newThings(checks);
         stages(checks);
         giving(checks);
@@ -115,6 +116,25 @@ public final class EdgesPlaysTest {
             + " scene f(i: int, j: int): int { throw new cue(1); }", 0, 0, "-142");
         checks.plays(in("f(t(1), q(2), o(3), t(4), t(5));") + more + " scene f(i: int, j: puppet, k: row, h: int, e: int) { say e - h; }",
             0, 0, "1 2 3 4 5 1");
+    }
+
+    /** As many values in work at once as ten brackets, five parameters and the signs between them allow. */
+    private static void deepest(Checks checks) {
+        checks.sentence("a ( [ or brace, or a - ! # of U, that is within 10 such ones");
+        StringBuilder value = new StringBuilder("7");
+        int due = 7;
+        for (int level = 9; level >= 1; level--) {
+            value.insert(0, "p.sum(1, 2, 3, 4, 0 < 1 + " + level + " * ").append(')');
+            due = 10 + (0 < 1 + level * due ? 1 : 0);
+        }
+        String acts = " act puppet sum(a: int, b: int, c: int, d: int, e: int): int { give a + b + c + d + e; }";
+        checks.plays(in("p = new puppet; say 5 - 2 * " + value + ";") + acts, 0, 0, Integer.toString(5 - 2 * due));
+        String sums = value.toString().replace("0 < 1", "1");
+        int sum = 7;
+        for (int level = 9; level >= 1; level--) {
+            sum = 10 + 1 + level * sum;
+        }
+        checks.plays(in("p = new puppet; r = new row[1]; r[0] = p; say 0 == " + sum + " - 1 * " + sums + ";") + acts, 0, 0, "1");
     }
 
     private static void newThings(Checks checks) {
