@@ -563,13 +563,14 @@ public final class PromptBook {
         static final int LACK = 10;
         static final int CUE_CLAUSE = 11;
         static final int ALWAYS = 12;
-        static final int LAST_IDLE = 12;
+        static final int ROW_AHEAD = 13;
+        static final int LAST_IDLE = 13;
         // The Checker puts another order in the place of each of these.
-        static final int NAME = 13;
-        static final int FIELD = 14;
-        static final int CALL = 15;
-        static final int STORE = 16;
-        static final int VAR_STORE = 17;
+        static final int NAME = 14;
+        static final int FIELD = 15;
+        static final int CALL = 16;
+        static final int STORE = 17;
+        static final int VAR_STORE = 18;
         // Values.
         static final int NUMBER = 20;
         static final int NOBODY = 21;
@@ -1240,6 +1241,8 @@ public final class PromptBook {
         private void readItem() {
             int place = reader.start;
             open('[');
+            // Of a PATH's step the type of the part ahead comes first: ahead of all that is inside the [ ].
+            script.add(Script.ROW_AHEAD, 0, NONE, place);
             readValue();
             close(']');
             script.add(Script.ITEM, 0, NONE, place);
@@ -1520,6 +1523,7 @@ public final class PromptBook {
                 case Script.TARGET_FIELD:
                 case Script.FIELD: findField(i, order); break;
                 case Script.TARGET_ITEM: checkItem(); settle(i, Script.SET_ITEM, 0); break;
+                case Script.ROW_AHEAD: demand(0, Kinds.ROW); break;
                 case Script.LACK_NUMBER: checkLackNumber(i); break;
                 case Script.CUE_CLAUSE:
                     checkUnseen(i);
@@ -1605,7 +1609,6 @@ public final class PromptBook {
         }
 
         private void checkItem() {
-            demand(1, Kinds.ROW);
             demand(0, Kinds.INT);
             replace(2, Kinds.PUPPET);
         }

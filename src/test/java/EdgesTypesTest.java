@@ -274,6 +274,9 @@ public final class EdgesTypesTest {
         checks.faulty(3, in("say ^p + p;"));
         checks.faulty(3, in("say ^p & p;"));
         checks.faulty(3, in("say ^p.first()[p];"));
+        checks.faulty(3, in("say ^p[-p];"));
+        checks.faulty(3, in("say ^p[zz];"));
+        checks.faulty(2, in("say r[^zz];"));
         checks.faulty(3, in("say ^none()[p];") + " scene none() {}");
     }
 

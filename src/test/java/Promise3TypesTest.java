@@ -209,7 +209,7 @@ public final class Promise3TypesTest {
         checks.faulty(2, in("say p + ^zz;"));
         checks.faulty(3, in("say ^p + n + zz;"));
         checks.faulty(2, in("say p & ^zz;"));
-        checks.faulty(2, in("p = p[^zz];"));
+        checks.faulty(3, in("p = ^p[zz];"));
         checks.faulty(3, in("p = ^p[p];"));
         checks.faulty(3, in("^p[0] = zz;"));
         checks.faulty(2, in("p.^zz = yy;"));

@@ -51,7 +51,10 @@ public final class UnsurePlacesTest {
         checks.faulty(3, in("throw ^p;"));
     }
 
-    /** A part is looked at by itself; what type it must have is looked at with the whole, the left part's first. */
+    /**
+     * A part is looked at by itself; what type it must have is looked at with the whole, the left part's first.
+     * Of a PATH's step the part ahead comes first: what is ahead of [ ] must be a row before what is inside is looked at.
+     */
     private static void severalFaults(Checks checks) {
         checks.sentence("in each the parts from the left, each wholly, then the whole");
         for (String sign : "* / % + - < <= > >= & |".split(" ")) {
@@ -61,12 +64,18 @@ public final class UnsurePlacesTest {
             checks.faulty(3, in("say p " + sign + " -^p;"));
         }
         checks.faulty(3, in("say ^p + n + zz;"));
-        checks.faulty(2, in("p = p[^zz];"));
         checks.faulty(2, in("say p == ^zz;"));
         checks.faulty(2, in("var v: int = ^zz;"));
         checks.faulty(2, in("give ^zz;"));
         checks.sentence("Of the types of parts and of the whole of a PATH's step, those of the part ahead first.");
         checks.faulty(3, in("say ^p[p];"));
+        checks.faulty(3, in("say ^p[zz];"));
+        checks.faulty(3, in("say ^p[-p];"));
+        checks.faulty(3, in("say ^n[p[zz]];"));
+        checks.faulty(3, in("^p.first()[zz.age] = yy;"));
+        checks.faulty(2, in("p = r[^zz];"));
+        checks.faulty(3, in("p = r[-^p];"));
+        checks.faulty(2, in("p = ^zz[yy];"));
         checks.faulty(3, in("say r[^p];"));
         checks.faulty(3, in("say ^r[n];"));
         checks.faulty(3, in("^p[p] = n;"));
