@@ -564,13 +564,14 @@ public final class PromptBook {
         static final int CUE_CLAUSE = 11;
         static final int ALWAYS = 12;
         static final int ROW_AHEAD = 13;
-        static final int LAST_IDLE = 13;
+        static final int INT_AHEAD = 14;
+        static final int LAST_IDLE = 14;
         // The Checker puts another order in the place of each of these.
-        static final int NAME = 14;
-        static final int FIELD = 15;
-        static final int CALL = 16;
-        static final int STORE = 17;
-        static final int VAR_STORE = 18;
+        static final int NAME = 15;
+        static final int FIELD = 16;
+        static final int CALL = 17;
+        static final int STORE = 18;
+        static final int VAR_STORE = 19;
         // Values.
         static final int NUMBER = 20;
         static final int NOBODY = 21;
@@ -1149,12 +1150,26 @@ public final class PromptBook {
                     return;
                 }
                 int place = reader.start;
-                int test = level > 2 ? NONE : script.add(level == 1 ? Script.OR_TEST : Script.AND_TEST, NONE, NONE, place);
+                int test = addBetween(sign, place);
                 next();
                 readJoined(level + 1);
                 int done = script.add(orderOf(sign), 0, NONE, place);
                 script.setArg(test, done);
                 tightest = level == COMPARING ? COMPARING - 1 : level;
+            }
+        }
+
+        /** What comes behind a sign's left part, ahead of its right one. */
+        private int addBetween(int sign, int place) {
+            switch (orderOf(sign)) {
+                case Script.OR_END: return script.add(Script.OR_TEST, NONE, NONE, place);
+                case Script.AND_END: return script.add(Script.AND_TEST, NONE, NONE, place);
+                case Script.EQUAL:
+                case Script.UNEQUAL: return NONE;
+                default:
+                    // Each part wholly, its type too: the left one's comes ahead of all that is in the right one.
+                    script.add(Script.INT_AHEAD, 0, NONE, place);
+                    return NONE;
             }
         }
 
@@ -1524,6 +1539,7 @@ public final class PromptBook {
                 case Script.FIELD: findField(i, order); break;
                 case Script.TARGET_ITEM: checkItem(); settle(i, Script.SET_ITEM, 0); break;
                 case Script.ROW_AHEAD: demand(0, Kinds.ROW); break;
+                case Script.INT_AHEAD: demand(0, Kinds.INT); break;
                 case Script.LACK_NUMBER: checkLackNumber(i); break;
                 case Script.CUE_CLAUSE:
                     checkUnseen(i);
@@ -1761,12 +1777,12 @@ public final class PromptBook {
                     checkComparable(typeAt(1), typeAt(0));
                     replace(2, Kinds.INT);
                     break;
-                default: checkInts(); break;
+                default: checkRight(); break;
             }
         }
 
-        private void checkInts() {
-            demand(1, Kinds.INT);
+        /** The left part's type was asked for ahead of the right part. */
+        private void checkRight() {
             demand(0, Kinds.INT);
             replace(2, Kinds.INT);
         }
@@ -1784,9 +1800,10 @@ public final class PromptBook {
                 case Script.THROW: demand(0, Kinds.CUE); drop(1); break;
                 case Script.DROP: drop(1); break;
                 case Script.GIVE: checkGive(i); break;
-                // Nothing at the tests ahead of these: a left part's type is asked for behind its right part's faults.
+                case Script.AND_TEST:
+                case Script.OR_TEST: demand(0, Kinds.INT); break;
                 case Script.AND_END:
-                case Script.OR_END: checkInts(); break;
+                case Script.OR_END: checkRight(); break;
                 default: break;
             }
         }

@@ -206,14 +206,16 @@ public final class Promise3TypesTest {
     private static void order(Checks checks) {
         checks.faulty(2, in("say ^zz; say yy;"));
         checks.faulty(2, in("say n;") + " act prop q() { say ^zz; } scene t() { say yy; }");
-        checks.faulty(2, in("say p + ^zz;"));
+        checks.faulty(2, in("say n + ^zz;"));
+        checks.faulty(3, in("say ^p + zz;"));
+        checks.faulty(3, in("say ^p & zz;"));
         checks.faulty(3, in("say ^p + n + zz;"));
-        checks.faulty(2, in("say p & ^zz;"));
+        checks.faulty(2, in("say n & ^zz;"));
         checks.faulty(3, in("p = ^p[zz];"));
         checks.faulty(3, in("p = ^p[p];"));
         checks.faulty(3, in("^p[0] = zz;"));
         checks.faulty(2, in("p.^zz = yy;"));
-        checks.faulty(2, in("n = p + ^yy;"));
+        checks.faulty(2, in("n = n + ^yy;"));
         checks.faulty(2, in("var q: int = 1; var ^q: int = zz;"));
         checks.faulty(2, in("try { say ^zz; } lack (0) {}"));
         checks.faulty(3, in("try { } lack (^0) { say zz; }"));

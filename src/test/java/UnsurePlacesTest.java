@@ -52,21 +52,44 @@ public final class UnsurePlacesTest {
     }
 
     /**
-     * A part is looked at by itself; what type it must have is looked at with the whole, the left part's first.
-     * Of a PATH's step the part ahead comes first: what is ahead of [ ] must be a row before what is inside is looked at.
+     * A part wholly is a part with the type that it must have: it is that part which "has another type than it must".
+     * So a left part's type comes ahead of all that is in the right part, and what is ahead of [ ] must be a row
+     * before what is inside is looked at. Only of a call the document says that its parts come first by themselves.
      */
     private static void severalFaults(Checks checks) {
-        checks.sentence("in each the parts from the left, each wholly, then the whole");
+        checks.sentence("in each the parts from the left, each wholly, then the whole: the first that is not as 2. has it");
         for (String sign : "* / % + - < <= > >= & |".split(" ")) {
-            checks.faulty(2, in("say p " + sign + " ^zz;"));
+            checks.faulty(3, in("say ^p " + sign + " zz;"));
+            checks.faulty(2, in("say ^zz " + sign + " p;"));
+            checks.faulty(2, in("say n " + sign + " ^zz;"));
             checks.faulty(3, in("say ^p " + sign + " p;"));
             checks.faulty(3, in("say n " + sign + " ^p;"));
-            checks.faulty(3, in("say p " + sign + " -^p;"));
+            checks.faulty(3, in("say ^p " + sign + " -p;"));
+            checks.faulty(3, in("say ^p.master " + sign + " p.zz;"));
+            checks.faulty(3, in("say ^(p) " + sign + " (zz);"));
+            checks.faulty(3, in("say n " + sign + " ^nobody;"));
         }
         checks.faulty(3, in("say ^p + n + zz;"));
+        for (String sign : "* / % + - & |".split(" ")) {
+            checks.faulty(3, in("say n " + sign + " ^p " + sign + " zz;"));
+        }
+        checks.faulty(3, in("say n + ^p * zz;"));
+        checks.faulty(3, in("say n | ^r & zz;"));
+        checks.faulty(3, in("say ^p + (p + n);"));
+        checks.faulty(3, in("say ^p + main(zz);"));
+        checks.faulty(3, in("say ^p < n + zz;"));
         checks.faulty(2, in("say p == ^zz;"));
+        checks.faulty(3, in("say p == ^n + 1;"));
         checks.faulty(2, in("var v: int = ^zz;"));
         checks.faulty(2, in("give ^zz;"));
+        checks.sentence("of a call its NAME, then its parts, how many they are, their types, what it gives");
+        String two = " scene two(a: int, b: int) {}";
+        checks.faulty(2, in("two(p, ^zz);") + two);
+        checks.faulty(3, in("two(p, -^p);") + two);
+        checks.faulty(3, in("^two(p);") + two);
+        checks.faulty(3, in("two(^p, p);") + two);
+        checks.faulty(3, in("say two(^p, 1);") + two);
+        checks.faulty(3, in("say ^two(1, 1);") + two);
         checks.sentence("Of the types of parts and of the whole of a PATH's step, those of the part ahead first.");
         checks.faulty(3, in("say ^p[p];"));
         checks.faulty(3, in("say ^p[zz];"));
