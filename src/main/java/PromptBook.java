@@ -693,11 +693,11 @@ public final class PromptBook {
             return size - 1;
         }
 
-        int addNamed(int order, int arg, Reader reader) {
-            int index = add(order, arg, NONE, reader.start);
-            names[index] = reader.name;
-            words[index] = reader.word;
-            return index;
+        void nameLast(Reader reader) {
+            if (size > 0) {
+                names[size - 1] = reader.name;
+                words[size - 1] = reader.word;
+            }
         }
 
         void addStage(long name, int type, int place) {
@@ -781,65 +781,60 @@ public final class PromptBook {
         }
 
         void readAll() {
-            next();
+            reader.advance();
             for (int i = 0; i < TOKENS_MOST && reader.word == Kinds.STAGE; i++) {
                 readStage();
             }
             for (int i = 0; i < TOKENS_MOST && (reader.word == Kinds.SCENE || reader.word == Kinds.ACT); i++) {
                 readHead();
                 readParameters();
-                readBody();
+                readGives();
+                part.begin = script.size;
+                readBlock();
+                part.end = script.add(Script.GIVE, 0, NONE, NONE);
             }
             if (reader.kind != Reader.END) {
                 refuse();
             }
         }
 
-        private void next() {
-            reader.advance();
-            if (reader.kind == Reader.LONG) {
-                script.fail(Script.TOO_MUCH, reader.start);
-            }
+        /** What is wrong with the token, if it is not the one that is wanted: too much comes ahead of no book going on. */
+        private int faultHere() {
+            int kind = reader.kind;
+            boolean opens = kind == '(' || kind == '[' || kind == '{';
+            boolean tooDeep = opens && nested >= NEST_MOST;
+            return kind == Reader.LONG || tooDeep ? Script.TOO_MUCH : Script.WRONG_TOKEN;
+        }
+
+        private void refuse() {
+            script.fail(faultHere(), reader.start);
         }
 
         private void tooMuch() {
             script.fail(Script.TOO_MUCH, reader.start);
         }
 
-        private void refuse() {
-            int kind = reader.kind;
-            boolean opens = kind == '(' || kind == '[' || kind == '{';
-            script.fail(opens && nested >= NEST_MOST ? Script.TOO_MUCH : Script.WRONG_TOKEN, reader.start);
-        }
-
         private void want(int kind) {
             if (reader.kind != kind) {
-                refuse();
+                script.fail(faultHere(), reader.start);
             }
-            next();
-        }
-
-        private void nest() {
-            if (nested >= NEST_MOST) {
-                tooMuch();
-            }
-            nested++;
+            reader.advance();
         }
 
         private void open(int sign) {
-            if (reader.kind != sign) {
-                refuse();
+            if (reader.kind != sign || nested >= NEST_MOST) {
+                script.fail(faultHere(), reader.start);
             }
-            nest();
-            next();
+            nested++;
+            reader.advance();
         }
 
         private void close(int sign) {
             if (reader.kind != sign) {
-                refuse();
+                script.fail(faultHere(), reader.start);
             }
             nested--;
-            next();
+            reader.advance();
         }
 
         private int readType() {
@@ -847,12 +842,12 @@ public final class PromptBook {
             if (!Kinds.isType(type)) {
                 refuse();
             }
-            next();
+            reader.advance();
             return type;
         }
 
         private void readStage() {
-            next();
+            reader.advance();
             if (!reader.isFreeName()) {
                 refuse();
             }
@@ -861,7 +856,7 @@ public final class PromptBook {
             }
             long name = reader.name;
             int place = reader.start;
-            next();
+            reader.advance();
             want(':');
             script.addStage(name, readType(), place);
             want(';');
@@ -870,13 +865,13 @@ public final class PromptBook {
         private void readHead() {
             boolean scene = reader.word == Kinds.SCENE;
             int kind = Kinds.NOTHING;
-            next();
+            reader.advance();
             if (!scene) {
                 kind = reader.word;
                 if (!Kinds.isKind(kind)) {
                     refuse();
                 }
-                next();
+                reader.advance();
             }
             if (!reader.isFreeName()) {
                 refuse();
@@ -887,19 +882,14 @@ public final class PromptBook {
             part = new Part(kind, reader);
             script.addPart(part);
             nested = 0;
-            next();
+            reader.advance();
         }
 
-        private void readBody() {
-            localCount = part.parameterCount;
+        private void readGives() {
             if (reader.kind == ':') {
-                next();
+                reader.advance();
                 part.gives = readType();
             }
-            part.begin = script.size;
-            readBlock();
-            script.add(Script.GIVE, 0, NONE, NONE);
-            part.end = script.size - 1;
         }
 
         private void readParameters() {
@@ -907,11 +897,12 @@ public final class PromptBook {
             if (reader.kind != ')') {
                 readParameter();
                 for (int i = 0; i < TOKENS_MOST && reader.kind == ','; i++) {
-                    next();
+                    reader.advance();
                     readParameter();
                 }
             }
             close(')');
+            localCount = part.parameterCount;
         }
 
         private void readParameter() {
@@ -923,7 +914,7 @@ public final class PromptBook {
             }
             long name = reader.name;
             int place = reader.start;
-            next();
+            reader.advance();
             want(':');
             part.addParameter(name, readType(), place);
         }
@@ -961,14 +952,15 @@ public final class PromptBook {
             if (localCount >= LOCALS_MOST) {
                 tooMuch();
             }
-            int index = script.addNamed(order, localCount, reader);
+            int index = script.add(order, localCount, NONE, reader.start);
+            script.nameLast(reader);
             localCount++;
-            next();
+            reader.advance();
             return index;
         }
 
         private void readVar() {
-            next();
+            reader.advance();
             int told = addLocal(Script.VAR_NAME);
             want(':');
             script.links[told] = readType();
@@ -980,14 +972,14 @@ public final class PromptBook {
 
         private void readOneValued(int order) {
             int place = reader.start;
-            next();
+            reader.advance();
             readValue();
             want(';');
             script.add(order, 0, NONE, place);
         }
 
         private void readGive(int place) {
-            next();
+            reader.advance();
             int count = 0;
             if (reader.kind != ';') {
                 readValue();
@@ -1006,12 +998,12 @@ public final class PromptBook {
             int order = script.has(last) ? script.orders[last] : NONE;
             if (reader.kind == '=' && targetOf(order) != NONE) {
                 script.orders[last] = targetOf(order);
-                next();
+                reader.advance();
                 readValue();
                 want(';');
                 script.add(Script.STORE, 0, last, script.places[last]);
             } else if (reader.kind == ';' && order == Script.CALL) {
-                next();
+                reader.advance();
                 script.add(Script.DROP, 0, NONE, NONE);
             } else {
                 refuse();
@@ -1036,7 +1028,7 @@ public final class PromptBook {
         }
 
         private void readIf() {
-            next();
+            reader.advance();
             int past = readCondition();
             readBlock();
             int exits = NONE;
@@ -1044,9 +1036,9 @@ public final class PromptBook {
                 exits = script.add(Script.JUMP, exits, NONE, NONE);
                 script.setArg(past, script.size);
                 past = NONE;
-                next();
+                reader.advance();
                 if (reader.word == Kinds.IF) {
-                    next();
+                    reader.advance();
                     past = readCondition();
                 }
                 readBlock();
@@ -1066,7 +1058,7 @@ public final class PromptBook {
         }
 
         private void readWhile(int place) {
-            next();
+            reader.advance();
             int head = script.add(Script.STEP, 0, NONE, place);
             int past = readCondition();
             readBlock();
@@ -1075,7 +1067,7 @@ public final class PromptBook {
         }
 
         private void readTry(int place) {
-            next();
+            reader.advance();
             int begin = script.add(Script.TRY, NONE, NONE, place);
             readBlock();
             script.add(Script.LEAVE, 0, NONE, NONE);
@@ -1092,7 +1084,7 @@ public final class PromptBook {
             }
             script.setArg(begin, script.add(Script.ALWAYS, 0, NONE, NONE));
             if (always) {
-                next();
+                reader.advance();
                 readBlock();
             }
             script.add(Script.RESUME, 0, NONE, NONE);
@@ -1100,11 +1092,11 @@ public final class PromptBook {
 
         private int readLack() {
             int clause = script.add(Script.LACK, 0, NONE, reader.start);
-            next();
+            reader.advance();
             open('(');
             readLackNumber(clause);
             for (int i = 0; i < TOKENS_MOST && reader.kind == ','; i++) {
-                next();
+                reader.advance();
                 readLackNumber(clause);
             }
             close(')');
@@ -1121,11 +1113,11 @@ public final class PromptBook {
             if (upset >= 1 && upset <= Machine.UPSETS) {
                 script.args[clause] |= 1 << upset;
             }
-            next();
+            reader.advance();
         }
 
         private int readCue() {
-            next();
+            reader.advance();
             open('(');
             script.add(Script.OPEN, 0, NONE, NONE);
             int clause = addLocal(Script.CUE_CLAUSE);
@@ -1150,8 +1142,9 @@ public final class PromptBook {
                     return;
                 }
                 int place = reader.start;
-                int test = addBetween(sign, place);
-                next();
+                int between = betweenOf(sign);
+                int test = between == NONE ? NONE : script.add(between, NONE, NONE, place);
+                reader.advance();
                 readJoined(level + 1);
                 int done = script.add(orderOf(sign), 0, NONE, place);
                 script.setArg(test, done);
@@ -1159,17 +1152,15 @@ public final class PromptBook {
             }
         }
 
-        /** What comes behind a sign's left part, ahead of its right one. */
-        private int addBetween(int sign, int place) {
-            switch (orderOf(sign)) {
-                case Script.OR_END: return script.add(Script.OR_TEST, NONE, NONE, place);
-                case Script.AND_END: return script.add(Script.AND_TEST, NONE, NONE, place);
-                case Script.EQUAL:
-                case Script.UNEQUAL: return NONE;
-                default:
-                    // Each part wholly, its type too: the left one's comes ahead of all that is in the right one.
-                    script.add(Script.INT_AHEAD, 0, NONE, place);
-                    return NONE;
+        /** The order that stands between a sign's left part and its right one, or NONE. */
+        private static int betweenOf(int sign) {
+            switch (sign) {
+                case '|': return Script.OR_TEST;
+                case '&': return Script.AND_TEST;
+                case '=' + Reader.WITH_EQUALS:
+                case '!' + Reader.WITH_EQUALS: return NONE;
+                // Each part wholly, its type too: the left one's comes ahead of all that is in the right one.
+                default: return Script.INT_AHEAD;
             }
         }
 
@@ -1214,8 +1205,11 @@ public final class PromptBook {
             int sign = reader.kind;
             int place = reader.start;
             if (sign == '-' || sign == '!' || sign == '#') {
-                nest();
-                next();
+                if (nested >= NEST_MOST) {
+                    tooMuch();
+                }
+                nested++;
+                reader.advance();
                 readUnary();
                 nested--;
                 int order = sign == '-' ? Script.NEGATE : sign == '!' ? Script.NOT : Script.LENGTH;
@@ -1226,12 +1220,12 @@ public final class PromptBook {
             if (reader.word == Kinds.AS || reader.word == Kinds.IS) {
                 int order = reader.word == Kinds.AS ? Script.AS : Script.IS;
                 place = reader.start;
-                next();
+                reader.advance();
                 int type = reader.word;
                 if (!Kinds.isKind(type) && !Kinds.isRole(type)) {
                     refuse();
                 }
-                next();
+                reader.advance();
                 script.add(order, type, NONE, place);
             }
         }
@@ -1264,7 +1258,7 @@ public final class PromptBook {
         }
 
         private void readMember() {
-            next();
+            reader.advance();
             if (reader.kind != Reader.NAME) {
                 refuse();
             }
@@ -1272,8 +1266,9 @@ public final class PromptBook {
         }
 
         private void readNamed(int alone, int called) {
-            int index = script.addNamed(alone, 0, reader);
-            next();
+            int index = script.add(alone, 0, NONE, reader.start);
+            script.nameLast(reader);
+            reader.advance();
             if (reader.kind == '(') {
                 script.orders[index] = called;
                 int count = readArguments();
@@ -1288,7 +1283,7 @@ public final class PromptBook {
                 readValue();
                 count = 1;
                 for (int i = 0; i < TOKENS_MOST && reader.kind == ','; i++) {
-                    next();
+                    reader.advance();
                     readValue();
                     count++;
                 }
@@ -1303,7 +1298,7 @@ public final class PromptBook {
                 readNamed(Script.NAME, Script.SCENE_NAME);
             } else if (reader.kind == Reader.NUMBER) {
                 script.add(Script.NUMBER, reader.value, NONE, place);
-                next();
+                reader.advance();
             } else if (reader.kind == '(') {
                 open('(');
                 readValue();
@@ -1311,7 +1306,7 @@ public final class PromptBook {
                 script.add(Script.PAREN, 0, NONE, place);
             } else if (reader.word == Kinds.NOBODY || reader.word == Kinds.ME) {
                 script.add(reader.word == Kinds.ME ? Script.ME : Script.NOBODY, 0, NONE, place);
-                next();
+                reader.advance();
             } else if (reader.word == Kinds.NEW) {
                 readNew(place);
             } else {
@@ -1320,19 +1315,19 @@ public final class PromptBook {
         }
 
         private void readNew(int place) {
-            next();
+            reader.advance();
             int type = reader.word;
             if (Kinds.isKind(type)) {
-                next();
+                reader.advance();
                 script.add(Script.NEW, type, NONE, place);
             } else if (type == Kinds.CUE) {
-                next();
+                reader.advance();
                 open('(');
                 readValue();
                 close(')');
                 script.add(Script.NEW_CUE, 0, NONE, place);
             } else if (type == Kinds.ROW) {
-                next();
+                reader.advance();
                 open('[');
                 readValue();
                 close(']');
